@@ -1,0 +1,290 @@
+import java.util.ArrayList;
+import java.util.HashMap;
+import java.util.List;
+import java.util.Map;
+import java.util.Random;
+
+/**
+ * Long runs of chosen-by-seed calls, every answer and the whole state held against a second
+ * telling of the document that shares no code and no way of holding the state with FramePool.
+ */
+public final class RunsAgainstModelTest {
+    private static final Due DUE = new Due("RunsAgainstModelTest");
+    private static final int CALLS = 512;
+    private static final int RUNS = 400;
+
+    private static final class Frame {
+        final Integer page;
+        int pins = 0;
+        boolean dirty = false;
+        boolean mark = false;
+        final Map<Integer, Integer> words = new HashMap<>();
+
+        Frame(Integer page) {
+            this.page = page;
+        }
+    }
+
+    private static final class Model {
+        final int pages;
+        final int words;
+        final List<Frame> frames = new ArrayList<>();
+        final Map<Integer, Map<Integer, Integer>> disk = new HashMap<>();
+        int hand = 0;
+        int reads = 0;
+        int writes = 0;
+
+        Model(int frames, int pages, int words) {
+            this.pages = pages;
+            this.words = words;
+            for (int f = 0; f < frames; f++) {
+                this.frames.add(null);
+            }
+        }
+
+        Map<Integer, Integer> onDisk(int page) {
+            return disk.computeIfAbsent(page, none -> new HashMap<>());
+        }
+
+        int where(int page) {
+            for (int f = 0; f < frames.size(); f++) {
+                if (frames.get(f) != null && frames.get(f).page == page) {
+                    return f;
+                }
+            }
+            return -1;
+        }
+
+        boolean held(int f) {
+            return f >= 0 && f < frames.size() && frames.get(f) != null && frames.get(f).pins > 0;
+        }
+
+        boolean bad(int page) {
+            return page < 0 || page >= pages;
+        }
+
+        void write(Frame frame) {
+            disk.put(frame.page, new HashMap<>(frame.words));
+            frame.dirty = false;
+            writes++;
+        }
+
+        int find() {
+            if (pinned() == frames.size()) {
+                return -1;
+            }
+            while (true) {
+                int f = hand;
+                hand = (hand + 1) % frames.size();
+                Frame frame = frames.get(f);
+                if (frame == null) {
+                    return f;
+                }
+                if (frame.pins > 0) {
+                    continue;
+                }
+                if (frame.mark) {
+                    frame.mark = false;
+                    continue;
+                }
+                if (frame.dirty) {
+                    write(frame);
+                }
+                frames.set(f, null);
+                return f;
+            }
+        }
+
+        int fetch(int page) {
+            if (bad(page)) {
+                return -2;
+            }
+            int f = where(page);
+            if (f < 0) {
+                f = find();
+                if (f < 0) {
+                    return -1;
+                }
+                Frame read = new Frame(page);
+                read.words.putAll(onDisk(page));
+                frames.set(f, read);
+                reads++;
+            }
+            frames.get(f).pins++;
+            frames.get(f).mark = true;
+            return f;
+        }
+
+        int unpin(int f) {
+            return held(f) ? --frames.get(f).pins : -3;
+        }
+
+        int readWord(int f, int off) {
+            return held(f) ? frames.get(f).words.getOrDefault(off, 0) : 0;
+        }
+
+        int writeWord(int f, int off, int w) {
+            if (!held(f)) {
+                return -3;
+            }
+            if (off < 0 || off >= words) {
+                return -4;
+            }
+            frames.get(f).words.put(off, w);
+            frames.get(f).dirty = true;
+            return 0;
+        }
+
+        int flush(int page) {
+            int f = where(page);
+            if (f < 0 || !frames.get(f).dirty) {
+                return 0;
+            }
+            write(frames.get(f));
+            return 1;
+        }
+
+        int flushAll() {
+            int before = writes;
+            for (int page = 0; page < pages; page++) {
+                flush(page);
+            }
+            return writes - before;
+        }
+
+        boolean drop(int page) {
+            int f = where(page);
+            if (f < 0 || frames.get(f).pins > 0) {
+                return false;
+            }
+            frames.set(f, null);
+            return true;
+        }
+
+        int copy(int page, int from) {
+            if (bad(page) || bad(from)) {
+                return -2;
+            }
+            if (!held(where(page))) {
+                return -3;
+            }
+            int source = where(from);
+            Map<Integer, Integer> got =
+                new HashMap<>(source < 0 ? onDisk(from) : frames.get(source).words);
+            Frame frame = frames.get(where(page));
+            frame.words.clear();
+            frame.words.putAll(got);
+            frame.dirty = true;
+            return 0;
+        }
+
+        int diskWord(int page, int off) {
+            return bad(page) ? 0 : onDisk(page).getOrDefault(off, 0);
+        }
+
+        int told(int f, int what) {
+            if (f < 0 || f >= frames.size() || what < 0 || what > 3) {
+                return -5;
+            }
+            Frame frame = frames.get(f);
+            if (frame == null) {
+                return what == 0 ? -1 : 0;
+            }
+            int[] all = {frame.page, frame.pins, frame.dirty ? 1 : 0, frame.mark ? 1 : 0};
+            return all[what];
+        }
+
+        int pinned() {
+            int count = 0;
+            for (int f = 0; f < frames.size(); f++) {
+                count += held(f) ? 1 : 0;
+            }
+            return count;
+        }
+    }
+
+    public static void main(String[] args) {
+        for (int run = 0; run < RUNS; run++) {
+            run(run);
+        }
+        DUE.end();
+    }
+
+    private static void run(int seed) {
+        Random random = new Random(seed);
+        boolean greatest = seed % 20 == 0;
+        int frames = greatest ? 32 : 1 + random.nextInt(6);
+        int pages = greatest ? 200 : 1 + random.nextInt(14);
+        int words = greatest ? 8 : 1 + random.nextInt(4);
+        FramePool pool = new FramePool(frames, pages, words);
+        Model model = new Model(frames, pages, words);
+        for (int call = 0; call < CALLS; call++) {
+            if (random.nextInt(300) == 0) {
+                pool.init();
+                model = new Model(frames, pages, words);
+            } else {
+                call(seed + "/" + call, random, pool, model);
+            }
+            if (call % 8 == 0 || call == CALLS - 1) {
+                sameState(seed + "/" + call, pool, model);
+            }
+        }
+    }
+
+    // Most numbers are good ones, some lie just outside, a few far away.
+    private static int number(Random random, int count) {
+        int kind = random.nextInt(40);
+        if (kind == 0) {
+            return random.nextInt();
+        }
+        return kind <= 2 ? random.nextInt(count + 4) - 2 : random.nextInt(count);
+    }
+
+    private static void call(String at, Random random, FramePool pool, Model model) {
+        int page = number(random, model.pages);
+        int from = number(random, model.pages);
+        int f = number(random, model.frames.size());
+        int off = number(random, model.words);
+        int w = random.nextInt();
+        switch (random.nextInt(16)) {
+            case 0, 1, 2, 3 -> DUE.is(at + " fetch(" + page + ")", pool.fetch(page), model.fetch(page));
+            case 4, 5, 6, 7 -> DUE.is(at + " unpin(" + f + ")", pool.unpin(f), model.unpin(f));
+            case 8 -> DUE.is(at + " readWord(" + f + ", " + off + ")",
+                pool.readWord(f, off), model.readWord(f, off));
+            case 9, 10, 11 -> DUE.is(at + " writeWord(" + f + ", " + off + ", " + w + ")",
+                pool.writeWord(f, off, w), model.writeWord(f, off, w));
+            case 12 -> DUE.is(at + " flush(" + page + ")", pool.flush(page), model.flush(page));
+            case 13 -> DUE.is(at + " drop(" + page + ")", pool.drop(page), model.drop(page));
+            case 14 -> DUE.is(at + " copy(" + page + ", " + from + ")",
+                pool.copy(page, from), model.copy(page, from));
+            default -> {
+                if (random.nextInt(4) == 0) {
+                    DUE.is(at + " flushAll()", pool.flushAll(), model.flushAll());
+                }
+            }
+        }
+        DUE.is(at + " hand()", pool.hand(), model.hand);
+        DUE.is(at + " pinned()", pool.pinned(), model.pinned());
+        DUE.is(at + " diskReads()", pool.diskReads(), model.reads);
+        DUE.is(at + " diskWrites()", pool.diskWrites(), model.writes);
+    }
+
+    private static void sameState(String at, FramePool pool, Model model) {
+        for (int f = -1; f <= model.frames.size(); f++) {
+            for (int what = -1; what <= 4; what++) {
+                DUE.is(at + " told(" + f + ", " + what + ")", pool.told(f, what), model.told(f, what));
+            }
+            for (int off = -1; off <= model.words; off++) {
+                DUE.is(at + " readWord(" + f + ", " + off + ")",
+                    pool.readWord(f, off), model.readWord(f, off));
+            }
+        }
+        for (int page = -1; page <= model.pages; page++) {
+            DUE.is(at + " resident(" + page + ")", pool.resident(page), model.where(page) >= 0);
+            for (int off = -1; off <= model.words; off++) {
+                DUE.is(at + " diskWord(" + page + ", " + off + ")",
+                    pool.diskWord(page, off), model.diskWord(page, off));
+            }
+        }
+    }
+}
