@@ -211,12 +211,12 @@ public final class FetchTest {
 
     private static void theHandGoesRound() {
         FramePool pool = new FramePool(32, 200, 1);
-        for (int page = 0; page < 200; page++) {
+        for (int page = 0; page < 150; page++) {
             DUE.is("fetch(" + page + ")", pool.fetch(page), page % 32);
             DUE.is("hand() after it", pool.hand(), (page + 1) % 32);
             pool.unpin(page % 32);
         }
-        DUE.is("diskReads()", pool.diskReads(), 200);
+        DUE.is("diskReads()", pool.diskReads(), 150);
     }
 
     private static void oneFrameAlone() {

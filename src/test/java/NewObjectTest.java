@@ -104,7 +104,20 @@ public final class NewObjectTest {
     private static void aNewObjectIsAsInitMakesIt() {
         isNew("new", new FramePool(4, 6, 3), 4, 6, 3);
         isNew("new, smallest", new FramePool(1, 1, 1), 1, 1, 1);
-        isNew("new, greatest", new FramePool(32, 200, 8), 32, 200, 8);
+        aNewGreatestObject();
+    }
+
+    // An object is good for 512 calls, so the greatest disk is looked at in several of them.
+    private static void aNewGreatestObject() {
+        isNew("new, greatest, its frames", new FramePool(32, 200, 8), 32, 1, 8);
+        for (int page = 0; page < 200; page++) {
+            FramePool pool = new FramePool(32, 200, 8);
+            DUE.is("new, greatest: resident(" + page + ")", pool.resident(page), false);
+            for (int off = 0; off < 8; off++) {
+                DUE.is("new, greatest: diskWord(" + page + ", " + off + ")",
+                    pool.diskWord(page, off), 0);
+            }
+        }
     }
 
     private static void initTakesEverythingBack() {

@@ -19,24 +19,31 @@ public final class WordTest {
         DUE.end();
     }
 
-    private static void wordsAreKeptApart() {
+    private static FramePool twoWordsInEveryFrame() {
         FramePool pool = new FramePool(32, 200, 8);
         for (int f = 0; f < 32; f++) {
             pool.fetch(199 - f);
             pool.writeWord(f, f % 8, 100 + f);
             pool.writeWord(f, (f + 3) % 8, 200 + f);
         }
+        return pool;
+    }
+
+    private static int wordOfTwo(int f, int off) {
+        return off == f % 8 ? 100 + f : off == (f + 3) % 8 ? 200 + f : 0;
+    }
+
+    private static void wordsAreKeptApart() {
+        FramePool inFrames = twoWordsInEveryFrame();
+        FramePool onDisk = twoWordsInEveryFrame();
+        onDisk.flushAll();
         for (int f = 0; f < 32; f++) {
             for (int off = 0; off < 8; off++) {
-                int want = off == f % 8 ? 100 + f : off == (f + 3) % 8 ? 200 + f : 0;
-                DUE.is("readWord(" + f + ", " + off + ")", pool.readWord(f, off), want);
-            }
-        }
-        pool.flushAll();
-        for (int f = 0; f < 32; f++) {
-            for (int off = 0; off < 8; off++) {
-                int want = off == f % 8 ? 100 + f : off == (f + 3) % 8 ? 200 + f : 0;
-                DUE.is("diskWord(" + (199 - f) + ", " + off + ")", pool.diskWord(199 - f, off), want);
+                int page = 199 - f;
+                DUE.is("readWord(" + f + ", " + off + ")",
+                    inFrames.readWord(f, off), wordOfTwo(f, off));
+                DUE.is("diskWord(" + page + ", " + off + ")",
+                    onDisk.diskWord(page, off), wordOfTwo(f, off));
             }
         }
     }
