@@ -11,8 +11,7 @@ final class Due {
     void is(String call, long got, long want) {
         asked++;
         if (got != want) {
-            wrong++;
-            System.out.println(test + ": " + call + " answered " + got + ", due is " + want);
+            fails(call + " answered " + got + ", due is " + want);
         }
     }
 
@@ -23,8 +22,7 @@ final class Due {
     void is(String call, Object got, Object want) {
         asked++;
         if (!want.equals(got)) {
-            wrong++;
-            System.out.println(test + ": " + call + " is " + got + ", due is " + want);
+            fails(call + " is " + got + ", due is " + want);
         }
     }
 
@@ -40,9 +38,19 @@ final class Due {
         frame(when, pool, f, -1, 0, 0, 0);
     }
 
+    void fails(String what) {
+        wrong++;
+        System.out.println(test + ": " + what);
+    }
+
+    /** A test that asked nothing holds nothing. */
+    boolean allAsDue() {
+        return asked > 0 && wrong == 0;
+    }
+
     void end() {
         System.out.println(test + ": " + asked + " answers, " + wrong + " not as due");
-        if (wrong != 0) {
+        if (!allAsDue()) {
             System.exit(1);
         }
     }
