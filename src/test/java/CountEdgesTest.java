@@ -7,6 +7,7 @@ public final class CountEdgesTest {
         reads.at("a page fetched again that is there is none", CountEdgesTest::thereAlready);
         reads.at("a refused fetch is none", CountEdgesTest::refusedFetch);
         reads.at("no other call is one", CountEdgesTest::noOtherReads);
+        reads.at("leaves all as it was", CountEdgesTest::diskReadsLeavesAll);
         Edges writes = new Edges("Promise 14");
         writes.at("none of a new object", CountEdgesTest::noWrites);
         writes.at("a dirty page that goes, is flushed, or is flushed with all", CountEdgesTest::three);
@@ -15,6 +16,7 @@ public final class CountEdgesTest {
         writes.at("a dropped page is none", CountEdgesTest::droppedPage);
         writes.at("a refused fetch is none", CountEdgesTest::refusedFetchWritesNothing);
         writes.at("no other call is one", CountEdgesTest::noOtherWrites);
+        writes.at("leaves all as it was", CountEdgesTest::diskWritesLeavesAll);
         reads.end();
         writes.end();
     }
@@ -127,5 +129,19 @@ public final class CountEdgesTest {
         FramePool pool = Pools.written(2, 5, 1);
         callTheOthers(pool);
         due.is("diskWrites()", pool.diskWrites(), 0);
+    }
+
+    private static void diskReadsLeavesAll(Due due) {
+        FramePool pool = Pools.mixed();
+        pool.diskReads();
+        pool.diskReads();
+        Pools.stillMixed(due, pool);
+    }
+
+    private static void diskWritesLeavesAll(Due due) {
+        FramePool pool = Pools.mixed();
+        pool.diskWrites();
+        pool.diskWrites();
+        Pools.stillMixed(due, pool);
     }
 }

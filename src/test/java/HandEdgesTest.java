@@ -8,6 +8,7 @@ public final class HandEdgesTest {
         edges.at("where it was, when the page is there", HandEdgesTest::pageIsThere);
         edges.at("where it was, when fetch is refused", HandEdgesTest::refused);
         edges.at("where it was, whatever else is called", HandEdgesTest::otherCalls);
+        edges.at("leaves all as it was", HandEdgesTest::leavesAll);
         edges.end();
     }
 
@@ -70,5 +71,12 @@ public final class HandEdgesTest {
         pool.unpin(0);
         pool.drop(4);
         due.is("hand()", pool.hand(), 1);
+    }
+
+    private static void leavesAll(Due due) {
+        FramePool pool = Pools.mixed();
+        pool.hand();
+        pool.hand();
+        Pools.stillMixed(due, pool);
     }
 }

@@ -10,6 +10,7 @@ public final class PinnedEdgesTest {
         edges.at("the first frame or the last alone", PinnedEdgesTest::firstOrLast);
         edges.at("as before, when a call is refused", PinnedEdgesTest::refused);
         edges.at("a found frame's old pins do not count", PinnedEdgesTest::found);
+        edges.at("leaves all as it was", PinnedEdgesTest::leavesAll);
         edges.end();
     }
 
@@ -84,5 +85,12 @@ public final class PinnedEdgesTest {
         due.is("pinned()", pool.pinned(), 1);
         due.is("unpin(0)", pool.unpin(0), 0);
         due.is("pinned() then", pool.pinned(), 0);
+    }
+
+    private static void leavesAll(Due due) {
+        FramePool pool = Pools.mixed();
+        pool.pinned();
+        pool.pinned();
+        Pools.stillMixed(due, pool);
     }
 }

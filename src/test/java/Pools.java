@@ -58,6 +58,30 @@ final class Pools {
         return pool;
     }
 
+    /** Page 4 in frame 0, pinned and dirty; page 3 in frame 1, without pins; frame 2 empty. */
+    static FramePool mixed() {
+        FramePool pool = new FramePool(3, 5, 2);
+        pool.fetch(4);
+        pool.fetch(3);
+        write(pool, 0, 4, 2);
+        pool.unpin(1);
+        return pool;
+    }
+
+    /** Held against numbers, since a text of the state is made by the very calls in question. */
+    static void stillMixed(Due due, FramePool pool) {
+        due.frame("as it was", pool, 0, 4, 1, 1, 1);
+        due.frame("as it was", pool, 1, 3, 0, 0, 1);
+        due.emptyFrame("as it was", pool, 2);
+        due.is("hand()", pool.hand(), 2);
+        due.is("pinned()", pool.pinned(), 1);
+        due.is("diskReads()", pool.diskReads(), 2);
+        due.is("diskWrites()", pool.diskWrites(), 0);
+        due.is("readWord(0, 0)", pool.readWord(0, 0), word(4, 0));
+        due.is("readWord(0, 1)", pool.readWord(0, 1), word(4, 1));
+        due.is("diskWord(4, 0)", pool.diskWord(4, 0), 0);
+    }
+
     /** All that a pool tells of itself as one text: for calls that must leave all as it was. */
     static String state(FramePool pool, int frames, int pages, int words) {
         StringBuilder text = new StringBuilder();

@@ -78,12 +78,10 @@ public final class ResidentEdgesTest {
     }
 
     private static void leavesAll(Due due) {
-        FramePool pool = Pools.written(3, 5, 2);
-        pool.unpin(1);
-        String before = Pools.state(pool, 3, 5, 2);
+        FramePool pool = Pools.mixed();
         for (int page = -1; page <= 5; page++) {
             pool.resident(page);
         }
-        due.is("the state", Pools.state(pool, 3, 5, 2), before);
+        Pools.stillMixed(due, pool);
     }
 }
