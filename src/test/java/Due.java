@@ -1,3 +1,5 @@
+import java.util.function.Supplier;
+
 /** Collects what a test finds wrong, and ends the test with exit code 1 if there was anything. */
 final class Due {
     private final String test;
@@ -12,6 +14,14 @@ final class Due {
         asked++;
         if (got != want) {
             fails(call + " answered " + got + ", due is " + want);
+        }
+    }
+
+    /** For very many answers: the text is made only when it is needed. */
+    void is(Supplier<String> call, long got, long want) {
+        asked++;
+        if (got != want) {
+            fails(call.get() + " answered " + got + ", due is " + want);
         }
     }
 
@@ -41,6 +51,10 @@ final class Due {
     void fails(String what) {
         wrong++;
         System.out.println(test + ": " + what);
+    }
+
+    boolean anyWrong() {
+        return wrong > 0;
     }
 
     /** A test that asked nothing holds nothing. */

@@ -7,6 +7,7 @@ public final class InitEdgesTest {
         edges.at("All frames are empty: those with a mark", InitEdgesTest::markedFrames);
         edges.at("All frames are empty: all 32", InitEdgesTest::allFrames);
         edges.at("All frames are empty: no page is in one", InitEdgesTest::noPageIsIn);
+        edges.at("All frames are empty: after a long life", InitEdgesTest::afterALongLife);
         edges.at("the hand stands at 0", InitEdgesTest::handAt0);
         edges.at("nothing was read", InitEdgesTest::nothingRead);
         edges.at("nothing was written", InitEdgesTest::nothingWritten);
@@ -67,6 +68,22 @@ public final class InitEdgesTest {
             due.is("resident(" + page + ")", pool.resident(page), false);
             due.is("drop(" + page + ")", pool.drop(page), false);
         }
+    }
+
+    private static void afterALongLife(Due due) {
+        FramePool pool = new FramePool(1, 200, 1);
+        for (int page = 0; page < 165; page++) {
+            pool.fetch(page);
+            pool.writeWord(0, 0, 7);
+            pool.unpin(0);
+        }
+        pool.init();
+        due.emptyFrame("after init", pool, 0);
+        due.is("flushAll()", pool.flushAll(), 0);
+        due.is("hand()", pool.hand(), 0);
+        due.is("diskReads()", pool.diskReads(), 0);
+        due.is("diskWrites()", pool.diskWrites(), 0);
+        due.is("diskWord(163, 0)", pool.diskWord(163, 0), 0);
     }
 
     private static void handAt0(Due due) {
